@@ -1,0 +1,55 @@
+/** Compares answers with what is due, and counts those that are not so. */
+final class Check {
+    private static int wrong = 0;
+    private static int made = 0;
+
+    /** A call that may throw. */
+    interface Call {
+        long answer();
+    }
+
+    private Check() {
+    }
+
+    static void same(String what, long got, long due) {
+        made++;
+        if (got != due) {
+            wrong++;
+            System.out.println(what + " answered " + got + ", due is " + due);
+        }
+    }
+
+    static void same(String what, String got, String due) {
+        made++;
+        if (!got.equals(due)) {
+            wrong++;
+            System.out.println(what + " answered [" + got + "], due is [" + due + "]");
+        }
+    }
+
+    static void yes(String what, boolean got) {
+        same(what, got ? 1 : 0, 1);
+    }
+
+    static void fails(String what, Class<? extends RuntimeException> due, Call call) {
+        made++;
+        String got;
+        try {
+            got = "answered " + call.answer();
+        } catch (RuntimeException e) {
+            if (e.getClass() == due) {
+                return;
+            }
+            got = "threw " + e.getClass().getName();
+        }
+        wrong++;
+        System.out.println(what + " " + got + ", due is " + due.getName());
+    }
+
+    static void end() {
+        System.out.println(wrong == 0 ? made + " checks, all as due" : wrong + " of " + made + " not as due");
+        if (wrong != 0) {
+            System.exit(1);
+        }
+    }
+}
