@@ -9,6 +9,7 @@ public final class EchoTest {
         }
         ask(lab, 1479);
         ask(lab, 1480);
+        twiceFolded(lab);
         tooShort(lab);
         Check.same("type 0", ping(lab, Frames.icmp(0, 0, new byte[8])), 0);
         Check.same("type 13", ping(lab, Frames.icmp(13, 0, new byte[8])), 0);
@@ -33,6 +34,15 @@ public final class EchoTest {
         Check.same("its answer", Frames.text(Frames.part(f, 34, f.length)), Frames.text(Frames.icmp(0, 0, rest)));
         Check.same("its header's sum", Frames.sum(Frames.part(f, 14, 34)), 0);
         Check.same("its source and target", Frames.number(f, 26, 8), (long) Frames.ME << 32 | HIM);
+    }
+
+    /** Words whose sum, folded once, has a carry still. */
+    private static void twiceFolded(Lab lab) {
+        byte[] rest = Frames.join(Frames.number(1, 2), Frames.fill(10, 255));
+        Check.same("an echo", ping(lab, Frames.icmp(8, 0, rest)), 1);
+        Check.same("its sum", Frames.number(lab.lastFrame(), 36, 2), 0xfffe);
+        byte[] asked = Frames.join(Frames.number(0xf801, 2), Frames.fill(10, 255));
+        Check.same("an echo", ping(lab, Frames.icmp(8, 0, asked)), 1);
     }
 
     private static void tooShort(Lab lab) {

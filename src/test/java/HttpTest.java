@@ -14,6 +14,7 @@ public final class HttpTest {
         tooLongWaitsForRoom();
         finWhileWaiting();
         finWithHalfARequest();
+        lengths();
         Check.end();
     }
 
@@ -54,6 +55,9 @@ public final class HttpTest {
         due("GETS /hurt HTTP/1.1" + END, "405 Method Not Allowed", false, "");
         due("GE / HTTP/1.0" + END, "405 Method Not Allowed", true, "");
         due("A /none HTTP/1.1" + END, "405 Method Not Allowed", false, "");
+        due("ZA / HTTP/1.1" + END, "405 Method Not Allowed", false, "");
+        due("SET / HTTP/1.1" + END, "405 Method Not Allowed", false, "");
+        due("GEM / HTTP/1.1" + END, "405 Method Not Allowed", false, "");
     }
 
     private static void badFirstLines() {
@@ -70,7 +74,7 @@ public final class HttpTest {
     }
 
     private static void fields() {
-        String[] fields = {"A:", "A:b", "A: b", "a-9:x", "-: ", "9:~ !", "A::", "A:b:c", "Host: 10.0.0.1\r\nAccept: */*"};
+        String[] fields = {"A:", "A:b", "A: b", "a-9:x", "azAZ09:x", "-: ", "9:~ !", "A::", "A:b:c", "Host: 10.0.0.1\r\nAccept: */*"};
         for (String field : fields) {
             due("GET / HTTP/1.1\r\n" + field + END, "200 OK", false, "root");
         }
@@ -94,7 +98,7 @@ public final class HttpTest {
             due("PUT / HTTP/1.1\r\n" + field + END, "405 Method Not Allowed", true, "");
         }
         String[] stays = {"Connection: keep-alive", "Connection: close, x", "Connection: closed", "Connection: clos",
-            "Connections: close", "Connectio: close", "X-Connection: close", "Connection: c lose", "Connection:",
+            "Connections: close", "Connectio: close", "X-Connection: close", "Bonnection: close", "Connection: glose", "Connection: clos\u0025", "Connection: c lose", "Connection:",
             "Connection: :close", "A: Connection: close"};
         for (String field : stays) {
             due("GET / HTTP/1.1\r\n" + field + END, "200 OK", false, "root");
@@ -223,6 +227,19 @@ public final class HttpTest {
         Check.same("all are answered", lab.data(k), answer("200 OK", false, "p".repeat(1500)).repeat(4));
         Check.yes("FIN at last", lab.lastSegment().startsWith("FPA"));
         Check.yes("it is gone", !p.isThere());
+    }
+
+    private static void lengths() {
+        int[] lengths = {1, 9, 10, 11, 99, 100, 101, 999, 1000, 1001, 1499, 1500};
+        for (int length : lengths) {
+            Lab lab = new Lab();
+            lab.page("/", Frames.fill(length, 'p'));
+            Peer p = Peer.open(lab, 5);
+            int k = lab.sent();
+            p.send("GET / HTTP/1.1" + END);
+            p.acknowledge(p.look(3) - p.ours);
+            Check.same("a page of " + length, lab.data(k), answer("200 OK", false, "p".repeat(length)));
+        }
     }
 
     private static void finWithHalfARequest() {

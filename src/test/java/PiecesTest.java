@@ -12,6 +12,8 @@ public final class PiecesTest {
         keys();
         fifthTakesTheFirstPlace();
         timeIsOver();
+        oneAlone();
+        besidesAWholeOne();
         wholeSegment();
         tooLongForAnEcho();
         emptyPieces();
@@ -143,6 +145,28 @@ public final class PiecesTest {
         Check.same("a tick", lab.x.tick(1), 0);
         Check.same("gone at its time", lab.x.count(5), 1);
         Check.same("the other is there", piece(lab, 2, 8, false, Frames.part(e, 8, 16)), 1);
+    }
+
+    private static void oneAlone() {
+        Lab lab = new Lab();
+        lab.x.tick(77);
+        piece(lab, 1, 0, true, new byte[8]);
+        lab.x.tick(29999);
+        Check.same("there before its time", lab.x.count(5), 1);
+        lab.x.tick(1);
+        Check.same("gone at its time", lab.x.count(5), 0);
+    }
+
+    private static void besidesAWholeOne() {
+        Lab lab = new Lab();
+        byte[] e = echo(40);
+        piece(lab, 7, 0, true, Frames.part(e, 0, 24));
+        Check.same("a whole one of the same number", lab.givePacket(HIM, Frames.ip(HIM, 7, 0, 1, echo(8))), 1);
+        Check.same("is no piece", lab.x.count(5), 1);
+        Check.same("the pieces", piece(lab, 7, 24, false, Frames.part(e, 24, 40)), 1);
+        Check.same("are another datagram", lab.lastFrame().length, 34 + 40);
+        Check.same("a whole one then", lab.givePacket(HIM, Frames.ip(HIM, 7, 0, 1, echo(9))), 1);
+        Check.same("is itself", lab.lastFrame().length, 34 + 9);
     }
 
     private static void wholeSegment() {

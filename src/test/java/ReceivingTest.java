@@ -17,6 +17,10 @@ public final class ReceivingTest {
         closingFirst();
         leavingEnds();
         tooFarAcknowledged();
+        oldSegment();
+        bytesBeyondTheFin();
+        usedAgain();
+        roomAgain();
         Check.end();
     }
 
@@ -250,6 +254,83 @@ public final class ReceivingTest {
         Check.yes("it is there", p.isThere());
         Check.same("its time", lab.x.tick(1), 0);
         Check.yes("it is gone", !p.isThere());
+    }
+
+    /** What does not fit is not even an acknowledgement. */
+    private static void oldSegment() {
+        Lab lab = new Lab();
+        Peer p = Peer.open(lab, 5);
+        p.send("A / HTTP/1.1\r\n\r\n");
+        Check.same("old data that acknowledge all", p.say(Frames.ACK, p.number - 1, p.look(3), "\n"), 1);
+        Check.same("acknowledge nothing", p.look(2), 100001);
+        Check.same("empty, before NEXT", p.say(Frames.ACK, p.number - 1, p.look(3), ""), 1);
+        Check.same("acknowledges nothing", p.look(2), 100001);
+        Check.same("empty, behind the window", p.say(Frames.ACK, p.number + 2048, p.look(3), ""), 1);
+        Check.same("acknowledges nothing", p.look(2), 100001);
+    }
+
+    private static void bytesBeyondTheFin() {
+        Lab lab = new Lab();
+        Peer p = Peer.open(lab, 5);
+        p.say(Frames.ACK, 1003, 100001, "cdefgh");
+        p.say(Frames.ACK | Frames.FIN, 1001, 100001, "ab");
+        Check.same("NEXT", p.look(1), 1004);
+        Check.same("the INBOX", p.look(7), 2);
+        Check.same("FIN of ours", lab.lastSegment(), "FA 100001 1004 2046");
+    }
+
+    /** A connection behind another one has nothing of it. */
+    private static void usedAgain() {
+        Lab lab = new Lab();
+        lab.page("/", Frames.fill(600, 'p'));
+        Peer p = Peer.open(lab, 5, 100, 4000);
+        p.send("GET / HTTP/1.1\r\n\r\nGET ");
+        p.acknowledge(0);
+        p.acknowledge(0);
+        lab.x.tick(3000);
+        p.acknowledge(0);
+        p.acknowledge(0);
+        p.say(Frames.ACK | Frames.FIN, p.number + 50, p.ours, "abc");
+        Check.same("tried", p.look(9), 2);
+        p.say(Frames.RST, p.number, 0, "");
+        Peer q = Peer.open(lab, 6, 200, 4000);
+        int[] due = {2, 1001, 200001, 200001, 4000, 400, 65535, 0, 0, 0, 1000, -1};
+        for (int what = 0; what < 12; what++) {
+            Check.same("what " + what, q.look(what), due[what]);
+        }
+        q.send("x".repeat(54));
+        Check.same("no bytes of the other's", q.look(7), 54);
+        Check.same("no FIN of the other's", q.look(1), 1055);
+        q.send("\r\n\r\n");
+        q.acknowledge(0);
+        Check.same("no doubles of the other's", q.acknowledge(0), 0);
+        Check.same("but its own", q.acknowledge(0), 1);
+        q.acknowledge(67);
+        Check.same("state 3", q.look(0), 3);
+        q.say(Frames.RST, q.number, 0, "");
+        Peer r = Peer.open(lab, 7);
+        Check.same("the first timeout", r.send("GET / HTTP/1.1\r\n\r\n"), 2);
+        Check.same("no state of the other's", lab.x.tick(1000), 1);
+    }
+
+    /** Where bytes were read, others can come too early again. */
+    private static void roomAgain() {
+        Lab lab = new Lab();
+        String head = "A / HTTP/1.1\r\nA:";
+        String request = head + "x".repeat(508 - head.length()) + "\r\n\r\n";
+        String last = "A / HTTP/1.0\r\nA:" + "x".repeat(508 - head.length()) + "\r\n\r\n";
+        String all = request + request + request + last;
+        Check.same("2048 bytes", all.length(), 2048);
+        Peer p = Peer.open(lab, 5);
+        p.say(Frames.ACK, 1001 + 512, 100001, all.substring(512, 1812));
+        p.say(Frames.ACK, 1001 + 1812, 100001, all.substring(1812));
+        p.say(Frames.ACK, 1001, 100001, all.substring(0, 512));
+        Check.same("NEXT", p.look(1), 1001 + 2048);
+        Check.same("all were read", p.look(7), 0);
+        p.say(Frames.ACK, 1001 + 2048, 100001, "y".repeat(1000));
+        p.say(Frames.ACK, 1001 + 3048, 100001, "y".repeat(536));
+        Check.same("what came then", p.look(7), 1536);
+        Check.same("and no more", p.look(1), 1001 + 2048 + 1536);
     }
 
     private static void tooFarAcknowledged() {

@@ -15,6 +15,9 @@ public final class SendingTest {
         finWithAnyWindow();
         acknowledgedInParts();
         answerInsteadOfAck();
+        doublesAfterATimeout();
+        halfOfWhatFlies();
+        lastByteAlone();
         Check.end();
     }
 
@@ -204,6 +207,57 @@ public final class SendingTest {
         Check.same("nothing is left", p.look(8), 0);
         Check.same("all acknowledged", p.look(2), p.look(3));
         Check.same("no TIMER", p.look(11), -1);
+    }
+
+    private static void doublesAfterATimeout() {
+        Lab lab = lab();
+        Peer p = Peer.open(lab, 5, 100, 4000);
+        p.send("GET / HTTP/1.1\r\n\r\n");
+        p.acknowledge(0);
+        p.acknowledge(0);
+        lab.x.tick(1000);
+        Check.same("the first after a timeout", p.acknowledge(0), 0);
+        Check.same("the second", p.acknowledge(0), 0);
+        Check.same("the third", p.acknowledge(0), 1);
+    }
+
+    /** With many small segments flying, LIMIT is half of them, and SPAN grows by less and less. */
+    private static void halfOfWhatFlies() {
+        Lab lab = lab();
+        Peer p = Peer.open(lab, 5, 64, 60000);
+        p.send("GET / HTTP/1.1\r\n\r\n".repeat(60));
+        for (int i = 0; i < 500 && p.look(3) - p.look(2) < 4000; i++) {
+            p.acknowledge(64);
+        }
+        int flies = p.look(3) - p.look(2);
+        Check.yes("4000 bytes fly", flies >= 4000);
+        p.acknowledge(0);
+        p.acknowledge(0);
+        Check.same("with the third double", p.acknowledge(0), 1);
+        Check.same("LIMIT is half", p.look(6), flies / 2);
+        Check.same("SPAN is LIMIT", p.look(5), flies / 2);
+        int span = flies / 2;
+        for (int i = 0; i < 30; i++) {
+            p.acknowledge(64);
+            span += Math.max(1, 64 * 64 / span);
+            Check.same("SPAN", p.look(5), span);
+        }
+        flies = p.look(3) - p.look(2);
+        lab.x.tick(1000);
+        Check.same("LIMIT is half", p.look(6), flies / 2);
+        Check.same("SPAN is MSS", p.look(5), 64);
+    }
+
+    private static void lastByteAlone() {
+        Lab lab = lab();
+        lab.page("/s", "s");
+        Peer p = Peer.open(lab, 5, 536, 38);
+        p.send("GET /s HTTP/1.1\r\n\r\n");
+        Check.same("all but one", lab.lastSegment(), "A 100001 1020 2048 38");
+        p.acknowledge(38);
+        Check.same("the last alone has PSH", lab.lastSegment(), "PA 100039 1020 2048 1");
+        lab.x.tick(1000);
+        Check.same("again", lab.lastSegment(), "PA 100039 1020 2048 1");
     }
 
     private static void answerInsteadOfAck() {

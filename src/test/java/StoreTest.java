@@ -74,6 +74,8 @@ public final class StoreTest {
         lab.row(Frames.text("/1y"));
         Check.fails("if there are 32, as the words say", IllegalStateException.class, () -> lab.x.page(2));
         Check.same("the page is as it was", lab.x.damage(0, 0, 0), 'x');
+        Check.same("the last page", lab.x.damage(31, 0, 0), 'x');
+        Check.fails("none behind it", IndexOutOfBoundsException.class, () -> lab.x.damage(32, 0, 0));
     }
 
     private static void damage() {
