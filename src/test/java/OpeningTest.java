@@ -35,6 +35,7 @@ public final class OpeningTest {
         Check.same("a header beyond", lab.givePacket(him, Frames.ip(him, 1, 0, 6, longer)), 0);
         Check.same("no connections", lab.x.count(3), 0);
         Check.same("the good one", lab.givePacket(him, Frames.ip(him, 1, 0, 6, good)), 1);
+        Check.same("a wrong sum behind it", lab.givePacket(him, Frames.ip(him, 1, 0, 6, bad)), 0);
     }
 
     private static void stranger(int to, int flags, int seq, int ack, String data, String due) {

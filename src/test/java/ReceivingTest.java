@@ -165,7 +165,7 @@ public final class ReceivingTest {
         Check.same("still state 2", p.look(0), 2);
         Check.same("data behind the FIN", p.say(Frames.ACK, 1005, 100001, "abc"), 1);
         Check.same("are not taken", p.look(1), 1005);
-        Check.same("ours is acknowledged", p.say(Frames.ACK, 1005, 100002, ""), 0);
+        Check.same("ours is acknowledged", p.say(Frames.ACK, 1005, 100002, "more"), 0);
         Check.yes("it is gone", !p.isThere());
     }
 
@@ -293,8 +293,16 @@ public final class ReceivingTest {
         p.say(Frames.ACK | Frames.FIN, p.number + 50, p.ours, "abc");
         Check.same("tried", p.look(9), 2);
         p.say(Frames.RST, p.number, 0, "");
+        Peer q = new Peer(lab, p.address, 9, 1000);
+        q.say(Frames.SYN, 1000, 0, "");
+        Check.same("no tries of the other's", q.look(9), 0);
+        q.say(Frames.RST, 1001, 0, "");
+        usedAfter(lab);
+    }
+
+    private static void usedAfter(Lab lab) {
         Peer q = Peer.open(lab, 6, 200, 4000);
-        int[] due = {2, 1001, 200001, 200001, 4000, 400, 65535, 0, 0, 0, 1000, -1};
+        int[] due = {2, 1001, 300001, 300001, 4000, 400, 65535, 0, 0, 0, 1000, -1};
         for (int what = 0; what < 12; what++) {
             Check.same("what " + what, q.look(what), due[what]);
         }
