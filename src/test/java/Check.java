@@ -23,8 +23,24 @@ final class Check {
         made++;
         if (!got.equals(due)) {
             wrong++;
-            System.out.println(what + " answered [" + got + "], due is [" + due + "]");
+            int from = firstDifference(got, due);
+            System.out.println(what + " answered [" + part(got, from) + "], due is [" + part(due, from) + "]");
         }
+    }
+
+    private static int firstDifference(String a, String b) {
+        int at = 0;
+        while (at < a.length() && at < b.length() && a.charAt(at) == b.charAt(at)) {
+            at++;
+        }
+        return at;
+    }
+
+    /** The text about a place, so that a long one can be read. */
+    private static String part(String text, int place) {
+        int from = Math.max(0, place - 60);
+        int to = Math.min(text.length(), place + 60);
+        return (from > 0 ? ".." : "") + text.substring(from, to) + (to < text.length() ? ".." : "");
     }
 
     static void yes(String what, boolean got) {

@@ -28,6 +28,27 @@ final class Peer {
         return p;
     }
 
+    /** A peer whose connection is open and whose next byte has the number behind a first one. */
+    static Peer from(Lab lab, int port, int first) {
+        Peer p = new Peer(lab, 0x0a000102, port, first);
+        p.connect(new byte[0]);
+        return p;
+    }
+
+    /** A peer in state 3, where what comes stays in the INBOX: so WINDOW can be made any number. */
+    static Peer leaving(Lab lab, int port, int first, int room) {
+        Peer p = from(lab, port, first);
+        p.send("bad\r\n\r\n");
+        p.acknowledge(p.look(3) - p.ours);
+        int rest = 2048 - room;
+        while (rest > 0) {
+            int n = Math.min(rest, 1000);
+            p.send("x".repeat(n));
+            rest -= n;
+        }
+        return p;
+    }
+
     private void connect(byte[] options) {
         say(Frames.SYN, number, 0, options, new byte[0]);
         number++;
