@@ -115,8 +115,12 @@ public final class FrameEdgesTest {
     private static void arpThatMayDiffer() {
         for (int bit = 64; bit < 8 * 24; bit++) {
             Lab lab = new Lab();
-            Check.same("bit " + bit, lab.give(turned(question(), 112 + bit)), 1);
+            byte[] asked = turned(question(), 112 + bit);
+            Check.same("bit " + bit, lab.give(asked), 1);
             Check.same("a neighbour", lab.x.count(4), 1);
+            byte[] f = lab.lastFrame();
+            Check.same("to the hardware that it says", Frames.number(f, 0, 6), Frames.number(asked, 22, 6));
+            Check.same("with both of it", Frames.text(Frames.part(f, 32, 42)), Frames.text(Frames.part(asked, 22, 32)));
         }
         Lab lab = new Lab();
         byte[] nobody = Frames.arp(1, 0, 0, Frames.ME);

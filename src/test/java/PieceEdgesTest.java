@@ -18,6 +18,7 @@ public final class PieceEdgesTest {
         fourGatherings();
         begunFirst();
         beyondMakesNoPlace();
+        wholeOnesMakeNoPlace();
         goneAfter30000();
         begunAnew();
         Check.end();
@@ -257,6 +258,24 @@ public final class PieceEdgesTest {
         gatherings("four still", lab, 4);
         for (int id = 1; id <= 4; id++) {
             Check.same("number " + id, piece(lab, id, 8, LAST, Frames.part(e, 8, 16)), 1);
+        }
+    }
+
+    /** What is no piece is no part of a GATHERING of its number, and takes nobody's place. */
+    private static void wholeOnesMakeNoPlace() {
+        byte[] e = echo(16);
+        Lab lab = new Lab();
+        for (int id = 1; id <= 4; id++) {
+            piece(lab, id, 0, MORE, Frames.part(e, 0, 8));
+        }
+        for (int id = 1; id <= 5; id++) {
+            Check.same("a whole one", lab.givePacket(HIM, Frames.ip(HIM, id, 0, 1, echo(40))), 1);
+            Check.same("is itself", lab.lastFrame().length, 34 + 40);
+            gatherings("four still", lab, 4);
+        }
+        for (int id = 1; id <= 4; id++) {
+            Check.same("number " + id, piece(lab, id, 8, LAST, Frames.part(e, 8, 16)), 1);
+            Check.same("is the pieces'", lab.lastFrame().length, 34 + 16);
         }
     }
 

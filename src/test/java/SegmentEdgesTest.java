@@ -149,7 +149,11 @@ public final class SegmentEdgesTest {
         mss("none", 536);
         mss("alone", 100, 2, 4, 0, 100);
         mss("behind 0", 536, 0, 2, 4, 0, 100);
+        mss("behind 0 that looks like one of 2", 536, 0, 2, 2, 4, 0, 100);
+        mss("behind 0 that looks like one of 4", 536, 0, 4, 0, 0, 2, 4, 0, 100);
+        mss("behind 1 and 0", 536, 1, 0, 2, 2, 4, 0, 100);
         mss("behind 1", 100, 1, 2, 4, 0, 100);
+        mss("behind 1 that looks like one of 4", 100, 1, 4, 2, 2, 4, 0, 100);
         mss("before 0", 100, 2, 4, 0, 100, 0, 9, 9, 9);
         mss("behind one of 2", 100, 9, 2, 2, 4, 0, 100);
         mss("behind one of 3", 100, 9, 3, 0, 2, 4, 0, 100);

@@ -179,12 +179,16 @@ public final class StoreEdgesTest {
     private static void thirtyTwoIsNotTooMany() {
         Lab lab = with(32);
         for (int k : new int[] {0, 15, 31}) {
-            Peer p = Peer.open(lab, 5 + k);
+            Peer p = Peer.open(lab, 6 + k);
             int sent = lab.sent();
             p.send("GET /" + k + " HTTP/1.1\r\n\r\n");
             String body = "page " + k;
             Check.same("page " + k, lab.data(sent), "HTTP/1.1 200 OK\r\nContent-Length: " + body.length() + "\r\n\r\n" + body);
         }
+        Peer p = Peer.open(lab, 5);
+        int sent = lab.sent();
+        p.send("GET /32 HTTP/1.1\r\n\r\n");
+        Check.same("none of 32", lab.data(sent), "HTTP/1.1 404 Not Found\r\nContent-Length: 0\r\n\r\n");
     }
 
     /** "ROW is empty then". */

@@ -13,6 +13,7 @@ public final class WindowEdgesTest {
         everyFlag();
         everyFlagInState1();
         acknowledgesOursAnd1();
+        timerOfTheSynEnds();
         notFittingInState1();
         bytesBeforeNextAndBehindWindow();
         bytesTooEarly();
@@ -162,6 +163,21 @@ public final class WindowEdgesTest {
         int[] due = {2, 3, 100001, 100001, 7, 536, 1072, 1, 0, 0, 1000, -1};
         for (int what = 0; what < 12; what++) {
             Check.same("what " + what, p.look(what), due[what]);
+        }
+    }
+
+    /** "the TIMER ends": where a shut window makes it begin at once, it begins anew. */
+    private static void timerOfTheSynEnds() {
+        for (int window = 0; window <= 1; window++) {
+            Lab lab = new Lab();
+            Peer p = new Peer(lab, HIM, 5, 1);
+            p.say(Frames.SYN, 1, 0, "");
+            lab.x.tick(1500);
+            Check.same("the SYN's TIMER", p.look(11), 3000);
+            p.window = window;
+            p.say(Frames.ACK, 2, 100001, "A / HTTP/1.1\r\n\r\n");
+            Check.same("a TIMER of its own, window " + window, p.look(11), 2500);
+            Check.same("TIMEOUT", p.look(10), 1000);
         }
     }
 
