@@ -35,6 +35,7 @@ public final class FuzzTest {
                     | java.util.NoSuchElementException e) {
                 StackTraceElement at = e.getStackTrace()[0];
                 Check.same("thrown in " + at, at.getClassName(), "UnikernelHttp");
+                Check.yes(e + " by a throw of the face: " + at, isDue(at.getMethodName(), e));
                 Check.same("run " + run + " call " + i + " threw and changed", look(lab), before);
                 answer = e.getClass().getName().length();
             }
@@ -44,6 +45,17 @@ public final class FuzzTest {
             }
         }
         return trace * 31 + look(lab);
+    }
+
+    /** Whether the promise of a method names just this exception. */
+    private static boolean isDue(String method, RuntimeException e) {
+        switch (e.getClass().getSimpleName()) {
+            case "IllegalStateException": return method.equals("feed") || method.equals("page");
+            case "IndexOutOfBoundsException": return "damage size bytes".contains(method);
+            case "NoSuchElementException": return method.equals("connection");
+            case "IllegalArgumentException": return "cut arrive page tick count connection".contains(method);
+            default: return false;
+        }
     }
 
     private static long look(Lab lab) {
